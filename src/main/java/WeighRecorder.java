@@ -1,4 +1,7 @@
-/** A recorder of weighings whose tickets are chained by sums and kept on a small chip. */
+/**
+ * A recorder of weighings whose tickets are chained by sums and kept on a small chip. What each call promises
+ * stands in DOC.md; the words of its terms (leaf, live, right, durable, cursor, victim) are used here as there.
+ */
 public final class WeighRecorder {
     private static final int BLOCKS = 8;
     private static final int PAGES_OF_BLOCK = 4;
@@ -53,11 +56,9 @@ public final class WeighRecorder {
     private int readings = 0;
     private int readSteps = 0;
 
-    /** Makes a recorder with a chip that was never written and an empty log. */
     public WeighRecorder() {
     }
 
-    /** Takes a reading of an axle in steps of 20 kg; answers how many readings there are. */
     public int axle(int steps) throws IllegalArgumentException, IllegalStateException {
         requireArgument(isWithin(steps, 1, MAX_STEPS));
         requireState(chip.isPowered() && readings < MAX_READINGS);
@@ -66,7 +67,6 @@ public final class WeighRecorder {
         return readings;
     }
 
-    /** Makes a ticket of all readings; answers its number, 0, -1 (worn out) or -2 (power went off). */
     public int close(int plate, int tare, int product, int clock)
             throws IllegalArgumentException, IllegalStateException {
         requireArgument(isWithin(tare, 0, MAX_TARE));
@@ -84,7 +84,6 @@ public final class WeighRecorder {
         return log.ticketCount();
     }
 
-    /** Voids a ticket; answers 1, 0, -1 (worn out) or -2 (power went off). */
     public int annul(int ticket, int reason) throws IllegalArgumentException, IllegalStateException {
         requireArgument(isWithin(reason, 0, MAX_REASON));
         requireState(chip.isPowered());
@@ -94,7 +93,6 @@ public final class WeighRecorder {
         return append(ticket, reason, VOIDING_WORD);
     }
 
-    /** Makes all records durable; answers 1, -1 (worn out) or -2 (power went off). */
     public int sync() throws IllegalStateException {
         requireState(chip.isPowered());
         if (store.durableCount() == log.recordCount()) {
@@ -104,7 +102,6 @@ public final class WeighRecorder {
         return page >= 0 ? store.writeLastLeaf(log, page) : page;
     }
 
-    /** Answers a detail of a ticket: plate, gross, tare, product, clock, voided, LINK. */
     public int ticket(int number, int what) throws IllegalStateException, IndexOutOfBoundsException {
         requireState(chip.isPowered());
         requireIndex(log.hasTicket(number) && isWithin(what, 0, DETAILS - 1));
@@ -126,7 +123,6 @@ public final class WeighRecorder {
         }
     }
 
-    /** Answers the net weight of a product's tickets of a day that are not voided. */
     public long dayTotal(int day, int product) throws IllegalStateException {
         requireState(chip.isPowered());
         long total = 0;
@@ -139,7 +135,6 @@ public final class WeighRecorder {
         return total;
     }
 
-    /** Answers the net weight of the tickets from one number to another that are not voided. */
     public long rangeTotal(int from, int to) throws IllegalStateException {
         requireState(chip.isPowered());
         int last = Math.min(to, log.ticketCount());
@@ -152,7 +147,6 @@ public final class WeighRecorder {
         return total;
     }
 
-    /** Answers the least number from one on whose ticket has the plate, or 0. */
     public int find(int plate, int from) throws IllegalStateException {
         requireState(chip.isPowered());
         for (int number = Math.max(from, 1); number <= log.ticketCount(); number++) {
@@ -163,7 +157,6 @@ public final class WeighRecorder {
         return 0;
     }
 
-    /** Answers the least number from one to another whose ticket fails, or 0. */
     public int audit(int from, int to) throws IllegalStateException {
         requireState(chip.isPowered());
         int last = Math.min(to, log.ticketCount());
@@ -175,7 +168,6 @@ public final class WeighRecorder {
         return 0;
     }
 
-    /** Answers byte i of the text of the tickets from one number to another, or -1. */
     public int exportByte(int from, int to, int i) throws IllegalStateException {
         requireState(chip.isPowered());
         if (i < 0) {
@@ -193,24 +185,20 @@ public final class WeighRecorder {
         return NONE;
     }
 
-    /** Makes a product active or not. */
     public void setProduct(int code, boolean active) throws IllegalArgumentException {
         requireArgument(isProduct(code));
         this.active[code] = active;
     }
 
-    /** Lets n more steps be done before power goes off at the next one. */
     public void cutAfter(int n) throws IllegalArgumentException {
         requireArgument(isWithin(n, 0, MAX_CUT));
         chip.tellCut(n);
     }
 
-    /** Turns power off. */
     public void crash() {
         chip.turnOff();
     }
 
-    /** Turns power off and on and reads the log from the chip; answers how many tickets there are. */
     public int mount() {
         chip.turnOff();
         forgetReadings();
@@ -219,31 +207,26 @@ public final class WeighRecorder {
         return log.ticketCount();
     }
 
-    /** Answers how often a block was erased. */
     public int wearOf(int block) throws IllegalArgumentException {
         requireArgument(isWithin(block, 0, BLOCKS - 1));
         return chip.wearAt(block);
     }
 
-    /** Lets a block fail from now on. */
     public void failBlock(int block) throws IllegalArgumentException {
         requireArgument(isWithin(block, 0, BLOCKS - 1));
         chip.markFailed(block);
     }
 
-    /** Xors a word of the chip with a mask. */
     public void poke(int page, int word, int mask) throws IllegalArgumentException {
         requireArgument(isPlace(page, word));
         chip.flip(page, word, mask);
     }
 
-    /** Answers a word of the chip. */
     public int word(int page, int word) throws IndexOutOfBoundsException {
         requireIndex(isPlace(page, word));
         return chip.read(page, word);
     }
 
-    /** Answers a count or a flag of the recorder's state. */
     public int state(int what) {
         boolean on = chip.isPowered();
         switch (what) {

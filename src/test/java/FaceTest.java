@@ -114,6 +114,11 @@ public final class FaceTest {
     private static void language() throws Exception {
         String text = Files.readString(Path.of("src/main/java/WeighRecorder.java"));
         String code = text.replaceAll("(?s)/\\*.*?\\*/", "").replaceAll("//[^\n]*", "");
+        for (String line : code.split("\n")) {
+            // All calls of a run live in one room, so only fields and exceptions are made.
+            boolean made = line.contains("new ") && !line.contains("private final ") && !line.contains("throw new ");
+            Expect.is("made in a call: " + line.trim(), made ? 1 : 0, 0);
+        }
         for (String form : NOT_IN_THE_LANGUAGE) {
             Expect.is("not in the language: " + form, Pattern.compile(form).matcher(code).find() ? 1 : 0, 0);
         }

@@ -220,8 +220,10 @@ public final class TicketTest {
         Chips.samePage("three records", x, 2, page);
         Chips.weigh(x, 9);
         x.sync();
-        Expect.is("head of leaf 1", x.word(3, 0), 5);
-        Expect.is("link of leaf 1", x.word(3, 5), Chips.sum(third));
+        int[] next = {5, 4, 9, 50 * 262144 + 100, 3 * 67108864 + 1500, Chips.sum(third), 0, 0, 0, 0, 0, 0, 0, 0, 0,
+            Chips.MARK};
+        next[14] = Chips.sum(java.util.Arrays.copyOf(next, 14));
+        Chips.samePage("the next leaf, with zeros behind its record", x, 3, next);
     }
 
     private static void syncWritesTheLastLeaf() {

@@ -14,6 +14,8 @@ public final class WhereTest {
         noneCleanVictimErased();
         noneCleanCut();
         noneCleanVictimWithLivePages();
+        noneCleanLivePagesNextDoor();
+        victimWithOnePage();
         firstOfVictimsAlike();
         failedBlockIsNoVictim();
         wornOut();
@@ -238,6 +240,31 @@ public final class WhereTest {
         Chips.weigh(x, 2);
         Expect.is("the other one has the most now", x.sync(), 1);
         Expect.is("and is erased", x.wearOf(1), 1);
+    }
+
+    private static void noneCleanLivePagesNextDoor() {
+        WeighRecorder x = fourFullLeaves(Chips.recorderWithBlocks(1, 2), 2);
+        Chips.spoilBlock(x, 1);
+        Expect.is("sync", Chips.weighAndSync(x, 13), 1);
+        Expect.is("the live pages behind the victim do not count", x.wearOf(1), 1);
+        WeighRecorder y = fourFullLeaves(Chips.recorderWithBlocks(1, 2), 1);
+        Chips.spoilBlock(y, 2);
+        Expect.is("sync", Chips.weighAndSync(y, 13), 1);
+        Expect.is("nor do those ahead of it", y.wearOf(2), 1);
+    }
+
+    private static void victimWithOnePage() {
+        WeighRecorder x = fourFullLeaves(Chips.recorderWithBlocks(0, 1), 0);
+        x.poke(3, 1, 1);
+        Expect.is("mount without leaf 3", x.mount(), 9);
+        Expect.is("sync", Chips.weighAndSync(x, 10), 1);
+        Expect.is("one page is enough", x.wearOf(0), 1);
+        for (int leaf = 0; leaf < 3; leaf++) {
+            Expect.is("three are moved", x.word(4 + leaf, 0), 4 * leaf + 3);
+        }
+        Expect.is("the last one is the leaf's", x.word(7, 0), 13);
+        Expect.is("audit", x.audit(1, 10), 0);
+        Expect.is("mount", x.mount(), 10);
     }
 
     private static void firstOfVictimsAlike() {
