@@ -4,9 +4,18 @@ final class Expect {
         void run();
     }
 
+    /** As many as are of use to a reader; the count at the end has them all. */
+    private static final int MOST_PRINTED = 50;
+
     private static int wrong = 0;
+    private static String about = "";
 
     private Expect() {
+    }
+
+    /** What is printed ahead of each answer from now on. */
+    static void about(String text) {
+        about = text;
     }
 
     static void is(String what, long got, long want) {
@@ -54,10 +63,10 @@ final class Expect {
         }
     }
 
-    private static void report(String text) {
+    static void report(String text) {
         wrong++;
-        if (wrong <= 50) {
-            System.out.println(text);
+        if (wrong <= MOST_PRINTED) {
+            System.out.println(about + text);
         }
     }
 }
