@@ -107,8 +107,8 @@ public final class FaceTest {
     }
 
     private static void fieldIsAllowed(Field f) {
-        int modifiers = f.getModifiers();
-        Expect.is("static and not final: " + f, Modifier.isStatic(modifiers) && !Modifier.isFinal(modifiers) ? 1 : 0, 0);
+        boolean changes = Modifier.isStatic(f.getModifiers()) && !Modifier.isFinal(f.getModifiers());
+        Expect.is("static and not final: " + f, changes ? 1 : 0, 0);
     }
 
     private static void language() throws Exception {

@@ -4,8 +4,8 @@ final class Promise05Sync {
 
     static void run() {
         Document promise = Document.part("Promise 5: sync");
-        promise.says("When not all records are durable, the last leaf is written: 1", Promise05Sync::writesTheLastLeaf);
-        promise.says("When not all records are durable, the last leaf is written: 1", Promise05Sync::writesTheLastOfAll);
+        promise.says("When not all records are durable", Promise05Sync::writesTheLastLeaf);
+        promise.says("the last leaf is written: 1", Promise05Sync::writesTheLastOfAll);
         promise.says("(also when they are and nothing is written)", Promise05Sync::nothingToWrite);
         promise.says("-1, -2 likewise.", Promise05Sync::wornOut);
         promise.says("-1, -2 likewise.", Promise05Sync::powerWentOff);
