@@ -48,9 +48,9 @@ public final class WeighRecorder {
     private static final int WORN_OUT = -1;
     private static final int POWER_WENT_OFF = -2;
 
-    private final Chip chip = new Chip();
+    private final Store store = new Store();
+    private final Chip chip = store.chip();
     private final Log log = new Log();
-    private final Store store = new Store(chip);
     private final Line line = new Line();
     private final boolean[] active = new boolean[PRODUCTS];
     private int readings = 0;
@@ -603,7 +603,7 @@ public final class WeighRecorder {
 
     /** Finds places for leaves, writes them, and knows which pages are live. */
     private static final class Store {
-        private final Chip chip;
+        private final Chip chip = new Chip();
         private final int[] livePages = new int[LEAVES];
         private final int[] row = new int[WORDS_OF_PAGE];
         private int cursor = NONE;
@@ -611,11 +611,15 @@ public final class WeighRecorder {
         private int durable = 0;
         private boolean wornOut = false;
 
-        Store(Chip chip) {
-            this.chip = chip;
+        Store() {
             for (int leaf = 0; leaf < LEAVES; leaf++) {
                 livePages[leaf] = NONE;
             }
+        }
+
+        /** The chip is made here and asked for, so that no constructor hands on a part of its object. */
+        Chip chip() {
+            return chip;
         }
 
         boolean isWornOut() {
